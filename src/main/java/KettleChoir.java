@@ -387,7 +387,8 @@ public final class KettleChoir {
             beginTrial();
             for (int m = 1; m <= minutes; m++) {
                 place.warm(trial, kettle, power);
-                if (place.sings(trial, kettle)) {
+                place.voice(trial, kettle);
+                if (trial[NOTE + kettle] != NONE) {
                     return power;
                 }
             }
@@ -773,24 +774,16 @@ public final class KettleChoir {
 
         void voice(int[] row, int k) {
             row[NOTE + k] = NONE;
-            if (sings(row, k)) {
+            if (row[HEAT + k] >= SINGING_HEAT && couldSing(row, k)) {
                 row[NOTE + k] = noteOf(k, row[FILL + k], row[HEAT + k], row[CHALK + k]);
                 row[SUNG + k]++;
             }
         }
 
-        boolean sings(int[] row, int k) {
-            return row[HEAT + k] >= SINGING_HEAT && couldSing(row, k);
-        }
-
         /** Whether it would sing, were it hot enough. */
         boolean couldSing(int[] row, int k) {
             int fill = row[FILL + k];
-            return fill >= 1 && isRoomy(k, fill) && row[CHALK + k] != HIGHEST_CHALK;
-        }
-
-        boolean isRoomy(int k, int fill) {
-            return 10 * fill <= 9 * size[k];
+            return fill >= 1 && 10 * fill <= 9 * size[k] && row[CHALK + k] != HIGHEST_CHALK;
         }
 
         int noteOf(int k, int fill, int heat, int chalky) {
@@ -798,7 +791,10 @@ public final class KettleChoir {
             if (kind[k] == COPPER) {
                 note--;
             }
-            return Math.max(0, Math.min(HIGHEST_NOTE, note));
+            if (note < 0) {
+                return 0;
+            }
+            return note > HIGHEST_NOTE ? HIGHEST_NOTE : note;
         }
 
         private void serve(int[] row) {
@@ -946,7 +942,8 @@ public final class KettleChoir {
         static final int WORD = 1;
         static final int NUMBER = 2;
         static final int SIGN = 3;
-        static final int NOTHING = 4;
+        static final int BLANK = 4;
+        static final int NOTHING = 5;
 
         static final int MISPLACED = 1;
         static final int TOO_MUCH = 2;
@@ -1242,8 +1239,8 @@ public final class KettleChoir {
             if (token != WORD || at - start != word.length()) {
                 return false;
             }
-            for (int i = 0; i < word.length(); i++) {
-                if (byteAt(start + i) != word.charAt(i)) {
+            for (int i = 0; i < word.length() && start + i < end; i++) {
+                if (tape[start + i] != word.charAt(i)) {
                     return false;
                 }
             }
@@ -1251,62 +1248,62 @@ public final class KettleChoir {
         }
 
         private boolean isSign(char sign) {
-            return token == SIGN && byteAt(start) == sign;
+            return token == SIGN && start < end && tape[start] == sign;
         }
 
         private void advance() {
             if (fault != 0) {
                 return;
             }
-            while (at < end && isBlank(at)) {
+            while (at < end && sortAt(at) == BLANK) {
                 at++;
             }
             start = at;
-            if (at >= end) {
-                token = END;
-            } else if (isLetter(at)) {
-                readWord();
-            } else if (isDigit(at)) {
-                readNumber();
-            } else {
-                token = ";()+-*/<=".indexOf((char) byteAt(at)) >= 0 ? SIGN : NOTHING;
-                at++;
-            }
-        }
-
-        private void readWord() {
-            token = WORD;
-            while (at < end && isLetter(at)) {
-                at++;
-            }
-        }
-
-        /** Of more digits than a NUMBER may have only the first count, so that it can't wrap. */
-        private void readNumber() {
-            token = NUMBER;
             number = 0;
-            while (at < end && isDigit(at)) {
-                if (at - start < MOST_DIGITS) {
-                    number = 10 * number + byteAt(at) - '0';
+            token = sortAt(at);
+            if (token == WORD) {
+                while (at < end && sortAt(at) == WORD) {
+                    at++;
                 }
+            } else if (token == NUMBER) {
+                while (at < end && sortAt(at) == NUMBER) {
+                    // Digits too many don't count, so that it can't wrap to a number that is as told.
+                    number = at - start < MOST_DIGITS ? 10 * number + tape[at] - '0' : number;
+                    at++;
+                }
+            } else if (token != END) {
                 at++;
             }
         }
 
-        private boolean isBlank(int i) {
-            return byteAt(i) == ' ' || byteAt(i) == '\n';
-        }
-
-        private boolean isLetter(int i) {
-            return byteAt(i) >= 'a' && byteAt(i) <= 'z';
-        }
-
-        private boolean isDigit(int i) {
-            return byteAt(i) >= '0' && byteAt(i) <= '9';
-        }
-
-        private int byteAt(int i) {
-            return i >= 0 && i < MOST_BYTES ? tape[i] & 255 : 0;
+        private int sortAt(int i) {
+            if (i < 0 || i >= end) {
+                return END;
+            }
+            int b = tape[i];
+            if (b >= 'a' && b <= 'z') {
+                return WORD;
+            }
+            if (b >= '0' && b <= '9') {
+                return NUMBER;
+            }
+            switch (b) {
+                case ' ':
+                case '\n':
+                    return BLANK;
+                case ';':
+                case '(':
+                case ')':
+                case '+':
+                case '-':
+                case '*':
+                case '/':
+                case '<':
+                case '=':
+                    return SIGN;
+                default:
+                    return NOTHING;
+            }
         }
     }
 
@@ -1407,8 +1404,7 @@ public final class KettleChoir {
 
         boolean fitsAsItIs(Kitchen place, int[] now, Heard heard) {
             System.arraycopy(now, 0, trial, 0, ROW);
-            singOn(place);
-            return fits(heard);
+            return fits(place, heard);
         }
 
         void search(Kitchen place, int[] now, Heard heard) {
@@ -1421,33 +1417,24 @@ public final class KettleChoir {
             Arrays.fill(unlike, 0);
             for (int k = 0; k < place.kettles; k++) {
                 for (int c = 0; c <= HIGHEST_CHALK; c++) {
-                    if (c != now[CHALK + k]) {
-                        tryChalk(place, now, heard, k, c);
+                    System.arraycopy(now, 0, trial, 0, ROW);
+                    trial[CHALK + k] = c;
+                    if (c != now[CHALK + k] && fits(place, heard)) {
+                        first = many == 0 ? 10 * k + c : first;
+                        many++;
+                        collect();
                     }
                 }
             }
             chooseMinute();
         }
 
-        private void tryChalk(Kitchen place, int[] now, Heard heard, int k, int c) {
-            System.arraycopy(now, 0, trial, 0, ROW);
-            trial[CHALK + k] = c;
-            singOn(place);
-            if (fits(heard)) {
-                first = many == 0 ? 10 * k + c : first;
-                many++;
-                collect();
-            }
-        }
-
-        private void singOn(Kitchen place) {
+        /** Lets the trial sing on, and holds it against what is heard. */
+        private boolean fits(Kitchen place, Heard heard) {
             for (int m = 1; m <= NEAR; m++) {
                 place.pass(trial);
                 choir[m] = place.notes;
             }
-        }
-
-        private boolean fits(Heard heard) {
             for (int i = 0; i < heard.many; i++) {
                 int note = heard.note[i];
                 long notes = choir[heard.minute[i]];
@@ -1521,7 +1508,7 @@ public final class KettleChoir {
             for (int n = 0; n < rows && last > 0; n++) {
                 if (choose(n, place.stoves, choices)) {
                     setOut(place, now);
-                    int ready = enoughVoices(place, dish) ? readyMinute(place, dish, last) : NONE;
+                    int ready = readyMinute(place, dish, last);
                     if (ready != NONE) {
                         when = ready;
                         last = ready - 1;
@@ -1570,7 +1557,7 @@ public final class KettleChoir {
         }
 
         private int readyMinute(Kitchen place, int dish, int last) {
-            for (int m = 1; m <= last; m++) {
+            for (int m = 1; m <= last && enoughVoices(place, dish); m++) {
                 place.pass(trial);
                 if (trial[READY + dish] != NONE) {
                     return m;
@@ -1594,7 +1581,7 @@ public final class KettleChoir {
             int nearest = NONE;
             int least = TOO_DEAR;
             int chalky = row[CHALK + kettle];
-            for (int fill = 1; fill <= HIGHEST_SIZE && place.isRoomy(kettle, fill); fill++) {
+            for (int fill = 1; fill <= 9 * place.size[kettle] / 10; fill++) {
                 int far = Math.abs(fill - row[FILL + kettle]);
                 if (far < least && place.noteOf(kettle, fill, SINGING_HEAT, chalky) == want) {
                     nearest = fill;

@@ -97,7 +97,7 @@ public final class ModelTest {
             lines.add(kettleLine(spouts));
         }
         for (int i = 0; i < stoves; i++) {
-            lines.add("stove" + blank() + (one(40) ? upTo(0, 50) : upTo(10, 40)));
+            lines.add("stove" + blank() + (one(40) ? upTo(0, 50) : one(3) ? upTo(1, 20) : upTo(20, 40)));
         }
         for (int i = 0; i < dishes; i++) {
             String dish = "dish";
@@ -107,7 +107,9 @@ public final class ModelTest {
             lines.add(dish);
         }
         for (int rules = one(20) ? 2 : upTo(0, 1); rules > 0; rules--) {
-            lines.add("lifts " + expr(one(20) ? 7 : upTo(0, 3)));
+            // A rule by chance lifts nearly all at once: half of them wait for a song.
+            String late = one(2) ? "" : upTo(1, 9) + "<sung and ";
+            lines.add("lifts " + late + expr(one(20) ? 7 : upTo(0, 3)));
         }
         while (!lines.isEmpty()) {
             text.append(lines.remove(one(3) ? random.nextInt(lines.size()) : 0)).append(one(50) ? " ; " : ";");
@@ -119,8 +121,8 @@ public final class ModelTest {
     private String kettleLine(int spouts) {
         String[] kinds = {"tin", "copper", "iron", "enamel"};
         int size = upTo(one(10) ? 1 : 8, 40);
-        int fill = one(8) ? upTo(0, size) : upTo(Math.min(1, size), Math.max(1, size / 2));
-        int chalk = one(10) ? 9 : upTo(0, 8);
+        int fill = one(8) ? upTo(0, size) : Math.min(size, upTo(2, 12));
+        int chalk = one(10) ? 9 : one(3) ? upTo(0, 8) : upTo(0, 2);
         int spout = one(50) ? upTo(0, 26) : spouts + upTo(0, 6);
         if (one(60)) {
             size += 3;
@@ -180,7 +182,7 @@ public final class ModelTest {
             }
         }
         for (int i = 0; i < calls; i++) {
-            if (!call()) {
+            if (!(one(12) ? concert() : call())) {
                 return false;
             }
             if (one(4) && !state()) {
@@ -192,6 +194,12 @@ public final class ModelTest {
 
     private int kettle() {
         return one(40) ? upTo(-2, 9) : random.nextInt(Math.max(1, choir.count(0)));
+    }
+
+    /** Another kettle, that sang, if there is one by chance: games and hearing are about those. */
+    private int singer(int otherwise) {
+        int k = random.nextInt(8);
+        return (choir.count(4) >> k & 1) == 1 ? k : otherwise;
     }
 
     private int stove() {
@@ -212,6 +220,26 @@ public final class ModelTest {
             return act(which);
         }
         return which < 23 ? askAhead(which) : askMore(which);
+    }
+
+    /** Several are filled, scraped, put on stoves, and heated until some sing at once: by chance alone few ever do. */
+    private boolean concert() {
+        boolean so = true;
+        for (int i = 0; i < choir.count(0) && so; i++) {
+            int k = i;
+            int fill = upTo(4, 9);
+            if (choir.kettle(k, 3) < 3) {
+                so &= same("pour(" + k + ", " + fill + ")", () -> choir.pour(k, fill), () -> model.pour(k, fill));
+            }
+            so &= same("scrape(" + k + ")", () -> choir.scrape(k), () -> model.scrape(k));
+        }
+        for (int i = 0; i < choir.count(1) && so; i++) {
+            int s = i;
+            int k = kettle();
+            so &= same("put(" + k + ", " + s + ")", () -> choir.put(k, s), () -> model.put(k, s));
+        }
+        int many = Math.max(choir.fugue(upTo(1, 3)), choir.fugue(1));
+        return so && (many == -1 || same("minutes(" + many + ")", () -> choir.minutes(many), () -> model.minutes(many)));
     }
 
     private boolean act(int which) {
@@ -283,8 +311,8 @@ public final class ModelTest {
     }
 
     private boolean askMore(int which) {
-        int k = kettle();
-        int o = kettle();
+        int k = singer(kettle());
+        int o = singer(kettle());
         switch (which) {
             case 23: {
                 int m = one(12) ? upTo(-1, 123) : upTo(1, 40);
