@@ -132,8 +132,11 @@ public final class ActTest {
         CHECK.same("from nothing", choir.pour(0, 20), 0);
         CHECK.same("heat of the empty one", choir.kettle(1, 5), 140);
         CHECK.same("from nothing", choir.pour(1, 1), 0);
+        choir.minutes(1);
+        CHECK.same("the other one's heat", choir.kettle(1, 5), 16);
+        CHECK.same("more: 16 * 1 / 3", choir.pour(1, 3), 5);
         CHECK.same("it is still on its stove", choir.kettle(1, 6), 1);
-        refused(choir, status, 8);
+        refused(choir, status, 10);
     }
 
     private static void scrape() {

@@ -12,6 +12,8 @@ public final class AheadTest {
         done();
         several();
         farMinutes();
+        lastOf120();
+        doneInTheLastOf120();
         quietFromTheMinuteAhead();
         CHECK.end();
     }
@@ -130,6 +132,7 @@ public final class AheadTest {
         choir.put(1, 1);
         choir.put(2, 2);
         CHECK.same("sung(1)", choir.sung(1), 3);
+        CHECK.same("then(1, 3)", choir.then(1, 3), 8 + 3 + 2);
         CHECK.same("sung(2)", choir.sung(2), NONE);
         CHECK.same("dry(1)", choir.dry(1), 16);
         CHECK.same("fugue(1)", choir.fugue(1), 3);
@@ -172,6 +175,45 @@ public final class AheadTest {
         CHECK.same("then(0, 120)", late.then(0, 120), 5 + 2 + 2);
         CHECK.same("dry(0) not within 120", late.dry(0), NONE);
         CHECK.same("quiet() not within 120", late.quiet(), NONE);
+    }
+
+    /** It sings in the 15th minute, HEAT 105; 36 cups go in the minutes 15, 18 .. 120, which is the 121st from now. */
+    private static void lastOf120() {
+        KettleChoir choir = CHECK.choir("tin 5 9 0 0;tin 5 40 36 0;stove 29;");
+        choir.put(1, 0);
+        CHECK.same("sung(1)", choir.sung(1), 15);
+        CHECK.same("dry(1) in 121", choir.dry(1), NONE);
+        CHECK.same("then(1, 120)", choir.then(1, 120), 5 + 7 + 5);
+        choir.minutes(1);
+        CHECK.same("dry(1) in 120", choir.dry(1), 120);
+        CHECK.same("quiet() in 121", choir.quiet(), NONE);
+        choir.minutes(1);
+        CHECK.same("dry(1) in 119", choir.dry(1), 119);
+        CHECK.same("quiet() in 120", choir.quiet(), 120);
+        CHECK.same("then(1, 119)", choir.then(1, 119), 5 + 7 + 5);
+        CHECK.same("then(1, 120) of a dry one", choir.then(1, 120), NONE);
+        CHECK.same("dry(0): it is", choir.dry(0), 0);
+    }
+
+    /** The second dish is ready in the 121st minute, as the minutes show that go by then. */
+    private static void doneInTheLastOf120() {
+        KettleChoir choir = CHECK.choir("tin 7 35 31 0;tin 9 39 35 0;stove 11;stove 7;dish 24;dish 4;");
+        choir.put(0, 0);
+        choir.put(1, 1);
+        CHECK.same("done(1) in 121", choir.done(1), NONE);
+        choir.minutes(1);
+        CHECK.same("done(1) in 120", choir.done(1), 120);
+        CHECK.same("done(0)", choir.done(0), NONE);
+        for (int m = 2; m <= 120; m++) {
+            choir.minutes(1);
+        }
+        CHECK.same("no dish is ready", choir.count(5), 0);
+        CHECK.same("done(1) in one", choir.done(1), 1);
+        choir.minutes(1);
+        CHECK.same("the second is ready", choir.count(5), 2);
+        CHECK.same("since", choir.dish(1, -2), 120);
+        CHECK.same("done(1): it is", choir.done(1), 0);
+        CHECK.same("done(0): it isn't", choir.done(0), NONE);
     }
 
     private static void quietFromTheMinuteAhead() {

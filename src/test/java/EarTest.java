@@ -82,28 +82,33 @@ public final class EarTest {
         CHECK.same("the note stays", choir.kettle(0, 8), NONE);
     }
 
-    /** Notes 8 and 11, less a third of the chalk: 3 of kettle 0, 0 of kettle 1. */
+    /** Notes 8 and 11: 9 less a third of chalk 3, and 12 less a third of chalk 4. */
     private static void chalkOfTwo() {
-        KettleChoir choir = CHECK.choir("tin 6 20 5 3;tin 8 20 5 0;stove 10;stove 10;");
+        KettleChoir choir = CHECK.choir("tin 6 20 5 3;tin 9 20 5 4;stove 10;stove 10;");
         choir.put(0, 0);
         choir.put(1, 1);
         chalk(choir, 18, 0, 1);
         choir.hear(10, 8);
         chalk(choir, 2 + 9, 4, 1);
-        choir.hear(10, 10);
-        chalk(choir, 3, 13, 0);
+        choir.hear(10, 11);
+        chalk(choir, 2 + 2, 4, 1);
+        choir.forget();
+        choir.hear(10, 12);
+        chalk(choir, 3, 10, 0);
         choir.forget();
         choir.hear(10, 9);
-        chalk(choir, 3 + 3, 0, 0);
+        chalk(choir, 3, 0, 0);
         choir.hear(10, 11);
         chalk(choir, 3, 0, 0);
+        choir.hear(10, 12);
+        chalk(choir, 0, NONE, 0);
         choir.forget();
         choir.hear(10, NONE);
         chalk(choir, 0, NONE, 0);
         choir.forget();
         choir.hear(10, 8);
         choir.hear(10, 8);
-        choir.hear(10, 9);
+        choir.hear(10, 10);
         chalk(choir, 3, 16, 0);
     }
 
@@ -141,6 +146,8 @@ public final class EarTest {
         choir.minutes(30);
         choir.minutes(10);
         CHECK.same("heat", choir.kettle(0, 5), 40);
+        CHECK.same("the minute to listen in", choir.listen(0), 60);
+        CHECK.same("choirs", choir.listen(1), 4);
         choir.hear(60, 7);
         chalk(choir, 2, 1, 1);
         choir.hear(59, NONE);
@@ -203,7 +210,10 @@ public final class EarTest {
         choir.hear(0, 5);
         choir.minutes(3);
         CHECK.same("without", choir.chalk(2), 0);
+        CHECK.same("by none", choir.chalk(0), 0);
         choir.forget();
+        CHECK.same("by all", choir.chalk(0), 9);
+        CHECK.same("a minute to listen in", choir.listen(0), 1);
         CHECK.same("heard", choir.count(10), 0);
         CHECK.same("without", choir.chalk(2), 1);
         CHECK.same("status 2 stays", choir.count(14), 1);

@@ -87,6 +87,14 @@ public final class EveningTest {
         choir.undo();
         rests(choir, 0, 1, 2, 1);
         CHECK.same("nobody was lifted off by a game", choir.kettle(1, 6), 1);
+        KettleChoir others = singing(5, 9, 13);
+        others.lift(1);
+        others.minutes(1);
+        CHECK.same("one doesn't sing", others.count(4), 5);
+        rests(others, 0, 1, 0, NONE);
+        rests(others, 1, 2, 0, NONE);
+        rests(others, 2, 1, 0, NONE);
+        rests(others, 0, 2, 1, 11);
     }
 
     private static void eveningAskedWrongly() {

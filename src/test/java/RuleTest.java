@@ -135,6 +135,10 @@ public final class RuleTest {
     private static void singersAndThirds() {
         String kettles = "tin 4 4 1 0;tin 7 4 1 0;tin 11 4 1 0;tin 16 4 1 0;stove 30;stove 30;stove 30;stove 30;";
         CHECK.same("whom third lifts", left(kettles + "lifts third;"), 12);
+        CHECK.same("whom third=1 lifts", left(kettles + "lifts third=1;"), 12);
+        CHECK.same("whom sung=1 and note<10 lifts", left(kettles + "lifts sung=1 and note<10;"), 12);
+        CHECK.same("whom chalk=3 lifts", left("tin 4 4 1 0;tin 7 4 1 3;tin 11 4 1 2;tin 16 4 1 3;stove 30;stove 30;"
+                + "stove 30;stove 30;lifts chalk=3;"), 5);
         CHECK.same("whom singers=4 lifts: all, whoever was lifted off ahead", left(kettles + "lifts singers=4;"), 0);
         CHECK.same("whom singers<4 and note lifts", left(kettles + "lifts singers<4 and note;"), 15);
         CHECK.same("whom note=11 or note=4 lifts", left(kettles + "lifts note=11 or note=4;"), 10);

@@ -69,6 +69,13 @@ public final class SearchTest {
         row(CHECK.choir(kettles + "stove 40;stove 40;dish 12;dish 15;dish 7;dish 1 2;"), 3, NONE, NONE, NONE);
         row(CHECK.choir(kettles + "stove 40;dish 3;"), 0, NONE, NONE);
         row(CHECK.choir("dish 3;"), 0, NONE);
+        KettleChoir second = CHECK.choir(kettles + "stove 40;stove 40;dish 3;dish 12;");
+        second.put(0, 0);
+        second.put(1, 1);
+        second.minutes(3);
+        CHECK.same("the first dish is ready", second.count(5), 1);
+        row(second, 0, NONE, NONE, NONE);
+        CHECK.holds("the second one can be", second.soonest(1, NONE) > 0);
         row(CHECK.choir("tin 5 20 5 0;stove 10;dish 3;"), 0, NONE, NONE);
     }
 
@@ -177,6 +184,8 @@ public final class SearchTest {
         cups("tin 5 20 10 0;tin 5 20 10 0;dish 1;", 1);
         cups("tin 5 20 20 0;tin 5 20 10 0;dish 1;", 2 + 1);
         cups("tin 5 20 0 0;tin 5 20 10 0;dish 1;", 1);
+        cups("copper 1 4 1 8;tin 5 4 1 0;dish 5;", 0);
+        cups("copper 1 4 1 8;tin 5 4 1 0;dish 4;", NONE);
     }
 
     /** Notes 7, 10 and 14 as they are; a fourth kettle of 11. */
@@ -230,6 +239,7 @@ public final class SearchTest {
         CHECK.same("together(1, 0, 10, 3)", choir.together(1, 0, 10, 3), 13);
         CHECK.same("together(0, 1, 10, 0)", choir.together(0, 1, 10, 0), 0);
         CHECK.same("together(0, 1, 10, 4)", choir.together(0, 1, 10, 4), 0);
+        CHECK.same("together(0, 1, 40, 24)", choir.together(0, 1, 40, 24), 0);
         CHECK.same("together(0, 1, 40, 3)", choir.together(0, 1, 40, 3), 14);
         CHECK.same("together(0, 1, 1, 3): 1 each", choir.together(0, 1, 1, 3), 0);
         choir.minutes(1);

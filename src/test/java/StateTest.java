@@ -194,6 +194,12 @@ public final class StateTest {
             CHECK.same("the chalk behind minute " + m, choir.kettle(0, 4), fills[m] == 0 ? 1 : 0);
         }
         CHECK.same("who doesn't sing keeps its cups", choir.kettle(1, 3), 5);
+        choir.put(1, 1);
+        choir.minutes(17);
+        CHECK.same("the other one's minutes", choir.kettle(1, 7), 13);
+        CHECK.same("the other one's cups", choir.kettle(1, 3), 0);
+        CHECK.same("the other one's chalk", choir.kettle(1, 4), 8);
+        CHECK.same("the first one's minutes", choir.kettle(0, 7), 13);
         KettleChoir last = CHECK.choir("tin 5 20 1 8;stove 40;");
         last.put(0, 0);
         last.minutes(4);

@@ -228,6 +228,13 @@ public final class TextTest {
         fault("lifts and;", 3, 6);
         fault("lifts 1 or or;", 3, 11);
         fault("lifts tin;", 3, 6);
+        fault("lifts abcxyz;", 3, 6);
+        fault("lifts z;", 3, 6);
+        fault("lifts a;", 3, 6);
+        fault("lifts {;", 1, 6);
+        fault("lifts `;", 1, 6);
+        fault("lifts :;", 1, 6);
+        fault("lifts 9+0;", 0, NONE);
         fault("lifts not;", 1, 9);
         fault("lifts not lifts;", 3, 10);
         fault("lifts -1;", 1, 6);
