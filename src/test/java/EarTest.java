@@ -13,6 +13,7 @@ public final class EarTest {
         lastMinuteHeard();
         listen();
         listenToNotes();
+        listenToEight();
         theCookDoesAsEver();
         forget();
         CHECK.end();
@@ -191,6 +192,26 @@ public final class EarTest {
         choir.hear(10, 7);
         CHECK.same("choirs with 8 and 7", choir.listen(1), 1);
         CHECK.same("by so many", choir.chalk(0), 6);
+    }
+
+    /** All eight sing, 3 apart: as it is, and for each one that is 1 or 2 lower or doesn't sing. */
+    private static void listenToEight() {
+        StringBuilder text = new StringBuilder("stove 40;stove 40;stove 40;stove 40;");
+        for (int k = 0; k < 8; k++) {
+            text.append("enamel ").append(3 * k + 3).append(" 20 5 0;");
+        }
+        KettleChoir choir = CHECK.choir(text.toString());
+        for (int turn = 0; turn < 2; turn++) {
+            for (int s = 0; s < 4; s++) {
+                choir.lift(s);
+                choir.put(4 * turn + s, s);
+            }
+            choir.minutes(4);
+        }
+        CHECK.same("all eight sing", choir.count(4), 255);
+        CHECK.same("by so many", choir.chalk(0), 72);
+        CHECK.same("choirs", choir.listen(1), 1 + 3 * 8);
+        CHECK.same("the minute", choir.listen(0), 1);
     }
 
     /** With chalk the rule lifts it off in the first minute: it never sings then. */
