@@ -1578,9 +1578,13 @@ public final class KettleChoir {
         private final int[] cups = new int[1 << MOST_NOTES];
 
         int nearestFill(Kitchen place, int[] row, int kettle, int want) {
+            int chalky = row[CHALK + kettle];
+            if (chalky == HIGHEST_CHALK) {
+                // It never sings, so no fill gives it a note; the chord goes by this, too.
+                return NONE;
+            }
             int nearest = NONE;
             int least = TOO_DEAR;
-            int chalky = row[CHALK + kettle];
             for (int fill = 1; fill <= 9 * place.size[kettle] / 10; fill++) {
                 int far = Math.abs(fill - row[FILL + kettle]);
                 if (far < least && place.noteOf(kettle, fill, SINGING_HEAT, chalky) == want) {
@@ -1609,12 +1613,10 @@ public final class KettleChoir {
             Arrays.fill(cups, TOO_DEAR);
             cups[0] = 0;
             for (int k = 0; k < place.kettles; k++) {
-                if (row[CHALK + k] != HIGHEST_CHALK) {
-                    for (int i = 0; i < notes; i++) {
-                        cost[i] = cupsTo(place, row, k, note[i]);
-                    }
-                    join(notes);
+                for (int i = 0; i < notes; i++) {
+                    cost[i] = cupsTo(place, row, k, note[i]);
                 }
+                join(notes);
             }
             return cups[all];
         }

@@ -732,7 +732,8 @@ final class Model {
     private static int tunedFill(Pot p, int note) {
         int best = NONE;
         for (int fill = p.size * 9 / 10; fill >= 1; fill--) {
-            if (p.noteAt(fill, 100) == note && (best == NONE || Math.abs(fill - p.fill) <= Math.abs(best - p.fill))) {
+            boolean sung = p.chalk != 9 && p.noteAt(fill, 100) == note;
+            if (sung && (best == NONE || Math.abs(fill - p.fill) <= Math.abs(best - p.fill))) {
                 best = fill;
             }
         }
@@ -751,7 +752,7 @@ final class Model {
         }
         int best = NONE;
         for (Pot p : free) {
-            int fill = p.chalk == 9 ? NONE : tunedFill(p, notes.get(0));
+            int fill = tunedFill(p, notes.get(0));
             if (fill != NONE) {
                 List<Pot> others = new ArrayList<>(free);
                 others.remove(p);

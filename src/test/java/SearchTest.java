@@ -11,6 +11,8 @@ public final class SearchTest {
         soonestAsItIsNow();
         soonestUpTo60();
         tuned();
+        tunedOfChalkNine();
+        tunedOfOneThatRanDry();
         chord();
         chordOfMore();
         burner();
@@ -142,7 +144,7 @@ public final class SearchTest {
     }
 
     private static void tuned() {
-        KettleChoir choir = CHECK.choir("tin 5 20 10 0;copper 8 20 5 3;iron 1 5 4 8;tin 9 1 1 0;tin 9 11 11 9;"
+        KettleChoir choir = CHECK.choir("tin 5 20 10 0;copper 8 20 5 3;iron 1 5 4 8;tin 9 1 1 0;tin 9 11 11 8;"
                 + "enamel 24 40 40 0;");
         int[] due = {NONE, NONE, NONE, NONE, NONE, 16, 11, 10, 5, NONE, NONE};
         for (int note = 0; note < due.length; note++) {
@@ -155,9 +157,9 @@ public final class SearchTest {
         CHECK.same("tuned(2, 0): -1 is kept to 0", choir.tuned(2, 0), 4);
         CHECK.same("tuned(2, 1)", choir.tuned(2, 1), NONE);
         CHECK.same("tuned(3, 9): a cup of one is too full", choir.tuned(3, 9), NONE);
-        CHECK.same("tuned(4, 6): 9 of 11 cups, with its chalk", choir.tuned(4, 6), 9);
-        CHECK.same("tuned(4, 7)", choir.tuned(4, 7), 6);
-        CHECK.same("tuned(4, 8)", choir.tuned(4, 8), 1);
+        CHECK.same("tuned(4, 7): 9 of 11 cups, with its chalk", choir.tuned(4, 7), 9);
+        CHECK.same("tuned(4, 8)", choir.tuned(4, 8), 6);
+        CHECK.same("tuned(4, 9)", choir.tuned(4, 9), 1);
         CHECK.same("tuned(5, 24): 36 of 40 cups", choir.tuned(5, 24), 36);
         CHECK.same("tuned(5, 31)", choir.tuned(5, 31), 5);
         CHECK.same("tuned(5, 32)", choir.tuned(5, 32), NONE);
@@ -167,6 +169,34 @@ public final class SearchTest {
         choir.pour(0, 0);
         CHECK.same("tuned(0, 8) of an empty one", choir.tuned(0, 8), 1);
         CHECK.same("tuned(0, 7) of an empty one", choir.tuned(0, 7), 6);
+    }
+
+    /** With CHALK 9 it never sings: no FILL gives it any NOTE, until it is scraped. */
+    private static void tunedOfChalkNine() {
+        KettleChoir choir = CHECK.choir("tin 5 20 5 9;copper 1 4 1 9;");
+        for (int note = 0; note <= 60; note++) {
+            CHECK.same("tuned(0, " + note + ") of chalk 9", choir.tuned(0, note), NONE);
+            CHECK.same("tuned(1, " + note + ") of chalk 9", choir.tuned(1, note), NONE);
+        }
+        CHECK.illegal("tuned to 61 with chalk 9", () -> choir.tuned(0, 61));
+        choir.scrape(0);
+        CHECK.same("tuned(0, 5) behind scraping", choir.tuned(0, 5), 16);
+        CHECK.same("tuned(0, 8) behind scraping", choir.tuned(0, 8), 5);
+        choir.undo();
+        CHECK.same("tuned(0, 5), scraping undone", choir.tuned(0, 5), NONE);
+    }
+
+    /** Its last cup goes in the fourth minute, and its chalk is 9 by that. */
+    private static void tunedOfOneThatRanDry() {
+        KettleChoir choir = CHECK.choir("tin 5 20 1 8;stove 40;");
+        choir.put(0, 0);
+        choir.minutes(3);
+        CHECK.same("tuned(0, 6) of chalk 8", choir.tuned(0, 6), 1);
+        choir.minutes(1);
+        CHECK.same("chalk of one that ran dry", choir.kettle(0, 4), 9);
+        CHECK.same("tuned(0, 6) of one that ran dry", choir.tuned(0, 6), NONE);
+        choir.undo();
+        CHECK.same("tuned(0, 6), the minute undone", choir.tuned(0, 6), 1);
     }
 
     private static void chord() {
