@@ -191,12 +191,12 @@ public final class SearchTest {
         KettleChoir choir = CHECK.choir("tin 5 20 1 8;stove 40;");
         choir.put(0, 0);
         choir.minutes(3);
-        CHECK.same("tuned(0, 6) of chalk 8", choir.tuned(0, 6), 1);
+        CHECK.same("tuned(0, 5) of chalk 8", choir.tuned(0, 5), 6);
         choir.minutes(1);
         CHECK.same("chalk of one that ran dry", choir.kettle(0, 4), 9);
-        CHECK.same("tuned(0, 6) of one that ran dry", choir.tuned(0, 6), NONE);
+        CHECK.same("tuned(0, 5) of one that ran dry", choir.tuned(0, 5), NONE);
         choir.undo();
-        CHECK.same("tuned(0, 6), the minute undone", choir.tuned(0, 6), 1);
+        CHECK.same("tuned(0, 5), the minute undone", choir.tuned(0, 5), 6);
     }
 
     private static void chord() {
