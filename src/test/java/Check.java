@@ -10,6 +10,7 @@ final class Check {
     }
 
     private final String name;
+    private String sentence = "";
     private int asked;
     private int wrong;
 
@@ -17,12 +18,21 @@ final class Check {
         this.name = name;
     }
 
+    /** The document's words that the next answers are held to, told with each that is not as due. */
+    void says(String words) {
+        sentence = " (\"" + words + "\")";
+    }
+
     void same(String what, long got, long want) {
         asked++;
         if (got != want) {
-            wrong++;
-            System.out.println(name + ": " + what + " is " + got + ", due is " + want);
+            tell(what + " is " + got + ", due is " + want);
         }
+    }
+
+    private void tell(String fault) {
+        wrong++;
+        System.out.println(name + ": " + fault + sentence);
     }
 
     void same(String what, boolean got, boolean want) {
@@ -50,8 +60,7 @@ final class Check {
             got = "threw " + e.getClass().getName();
         }
         if (!got.equals("threw " + due.getName())) {
-            wrong++;
-            System.out.println(name + ": " + what + " " + got + ", due is " + due.getName());
+            tell(what + " " + got + ", due is " + due.getName());
         }
     }
 
@@ -79,6 +88,21 @@ final class Check {
     static int read(KettleChoir choir, String text) {
         tape(choir, text);
         return choir.kitchen(text.length());
+    }
+
+    /** Lets minutes go by on one stove behind the other, none of which may be too many, until it is just so hot. */
+    void heat(KettleChoir choir, int kettle, int due) {
+        for (int s = 0; s < choir.count(1); s++) {
+            choir.put(kettle, s);
+            for (int m = 0; m < 99 && choir.kettle(kettle, 5) < due; m++) {
+                choir.minutes(1);
+                if (choir.kettle(kettle, 5) > due) {
+                    choir.undo();
+                    break;
+                }
+            }
+        }
+        same("the heat of kettle " + kettle, choir.kettle(kettle, 5), due);
     }
 
     /** A new object with this kitchen. */
