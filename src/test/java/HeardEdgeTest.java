@@ -33,6 +33,7 @@ public final class HeardEdgeTest {
         imageInPlace();
         restoreAgain();
         restoreOf40Acts();
+        restoreOf8Heard();
         restoreStatus();
         restoreNone();
         asksChangeNothing();
@@ -343,6 +344,19 @@ public final class HeardEdgeTest {
         KettleChoir one = singing(9, 10, 7);
         rests(one, 0, 1, 1, 1);
         rests(one, 1, 0, 1, 10);
+        // A third one that doesn't sing is near nobody, not even 0 and 1, as it would be if its NOTE were -1 or 0.
+        for (int note = 0; note <= 3; note++) {
+            String low = note == 0 ? "copper 1 4 1 0;" : "tin " + note + " 4 1 0;";
+            KettleChoir choir = CHECK.choir("tin 9 4 1 9;" + low + "tin 20 4 1 0;tin 9 4 1 9;" + "stove 30;".repeat(4));
+            for (int k = 0; k < 4; k++) {
+                choir.put(k, k);
+            }
+            choir.minutes(2);
+            CHECK.same("who sings", choir.count(4), 6);
+            CHECK.same("the low note", choir.kettle(1, 8), note);
+            rests(choir, 1, 2, 1, 11);
+            rests(choir, 2, 1, 1, 11);
+        }
     }
 
     private static void gameNone() {
@@ -614,6 +628,25 @@ public final class HeardEdgeTest {
                 CHECK.same("the fill then", choir.kettle(0, 3), (acts - i) % 41);
             }
             CHECK.same("no more", choir.undo(), NONE);
+        }
+    }
+
+    private static void restoreOf8Heard() {
+        CHECK.says("AN IMAGE keeps .. what is HEARD");
+        for (int heard = 0; heard <= 8; heard++) {
+            KettleChoir choir = CHECK.choir("tin 9 4 1 3;stove 30;");
+            choir.put(0, 0);
+            for (int i = 0; i < heard; i++) {
+                choir.hear(2, i < 7 ? 8 : 7);
+            }
+            choir.image();
+            choir.forget();
+            choir.hear(1, 60);
+            CHECK.same("restore()", choir.restore(), true);
+            CHECK.same("heard", choir.count(10), heard);
+            CHECK.same("how many chalks", choir.chalk(0), heard == 0 ? 9 : heard == 8 ? 0 : 2);
+            CHECK.same("whether without", choir.chalk(2), heard == 8 ? 0 : 1);
+            CHECK.same("one more", choir.hear(2, 8), heard == 8 ? NONE : heard + 1);
         }
     }
 

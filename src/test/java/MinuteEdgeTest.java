@@ -387,6 +387,15 @@ public final class MinuteEdgeTest {
         CHECK.same("three of four", singing("dish 3 7 10;dish 3 7;", 9, 12, 16).count(5), 2);
         CHECK.same("four", singing("dish 10 3 7;dish 3 7 11;", 9, 12, 16, 19).count(5), 1);
         CHECK.same("from its second note", singing("dish 4 7;", 9, 12, 16, 19).count(5), 1);
+        CHECK.same("not those of the next dish", singing("dish 3 7 10;dish 24;", 9, 12, 16, 19).count(5), 1);
+        CHECK.same("five dishes", singing("dish 3;dish 7 3;dish 11;dish 10 7 3;dish 1;", 9, 12, 16, 19).count(5), 11);
+        CHECK.says("are a KITCHEN, all anew");
+        KettleChoir anew = CHECK.choir("dish 24 23 22;dish 21 20;");
+        Check.read(anew, "tin 9 4 1 0;tin 12 4 1 0;stove 30;stove 30;dish 3;dish 3;");
+        anew.put(0, 0);
+        anew.put(1, 1);
+        anew.minutes(2);
+        CHECK.same("not those of the kitchen ahead", anew.count(5), 3);
     }
 
     private static void readyStays() {
@@ -412,6 +421,15 @@ public final class MinuteEdgeTest {
         choir.undo();
         CHECK.same("undone: it isn't", choir.dish(0, -2), NONE);
         CHECK.same("undone: the minute", choir.count(3), 0);
+        for (int d = 0; d < 5; d++) {
+            KettleChoir five = singing("dish 5;".repeat(d) + "dish 3;" + "dish 5;".repeat(4 - d), 9, 12);
+            five.minutes(1);
+            CHECK.same("who sings again", five.count(4), 3);
+            CHECK.same("only dish " + d + " is ready", five.count(5), 1 << d);
+            for (int other = 0; other < 5; other++) {
+                CHECK.same("since when dish " + other + " is", five.dish(other, -2), other == d ? 1 : NONE);
+            }
+        }
     }
 
     /** From the second minute on it sings at HEAT 100 and more: cups go in the minutes 3, 6, 9 .. alone. */
@@ -499,5 +517,17 @@ public final class MinuteEdgeTest {
         }
         CHECK.same("all couples", singing("", 9, 12, 16, 13).count(8), 4);
         CHECK.same("without a minute", CHECK.choir("tin 5 20 5 0;tin 8 20 5 0;").count(8), 0);
+        // One that doesn't sing is no third of a low one, as it would be if its NOTE were -1 or 0.
+        for (int note = 1; note <= 5; note++) {
+            String low = "tin " + note + " 4 1 0;";
+            for (String couple : new String[] {low + "tin 9 4 1 9;", "tin 9 4 1 9;" + low}) {
+                KettleChoir choir = CHECK.choir(couple + "stove 30;stove 30;");
+                choir.put(0, 0);
+                choir.put(1, 1);
+                choir.minutes(2);
+                CHECK.same("singers of " + couple, Integer.bitCount(choir.count(4)), 1);
+                CHECK.same("thirds of " + couple, choir.count(8), 0);
+            }
+        }
     }
 }

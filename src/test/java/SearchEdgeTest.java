@@ -9,6 +9,8 @@ public final class SearchEdgeTest {
         soonestUpTo60();
         soonestInOne();
         soonestReady();
+        soonestOfEachDish();
+        soonestByALaterRow();
         soonestFirstRow();
         soonestOfEightOnFour();
         soonestWithTheCook();
@@ -20,6 +22,7 @@ public final class SearchEdgeTest {
         chordOfFew();
         chordOfFarSteps();
         chordByChalk();
+        chordOfEachDish();
         chordMissing();
         burnerOf1To40();
         burnerWithin1To120();
@@ -27,6 +30,7 @@ public final class SearchEdgeTest {
         burnerRefused();
         togetherIn60();
         togetherSoManyApart();
+        togetherByNote0();
         togetherRefused();
         asksChangeNothing();
         CHECK.end();
@@ -97,6 +101,42 @@ public final class SearchEdgeTest {
         row(never, 1, NONE, NONE, NONE);
         row(CHECK.choir("stove 1;dish 3;"), 0, NONE, NONE);
         row(CHECK.choir("tin 9 6 5 0;tin 12 6 5 0;dish 3;"), 0, NONE);
+    }
+
+    private static void soonestOfEachDish() {
+        CHECK.says("all NONE, if it can't be, or is READY");
+        for (int d = 0; d < 5; d++) {
+            KettleChoir choir = CHECK.choir("tin 9 4 1 0;tin 12 4 1 0;stove 30;stove 30;" + "dish 5;".repeat(d) + "dish 3;"
+                    + "dish 5;".repeat(4 - d));
+            for (int other = 0; other < 5; other++) {
+                row(choir, other, other == d ? 2 : NONE, other == d ? 0 : NONE, other == d ? 1 : NONE);
+            }
+            choir.put(0, 0);
+            choir.put(1, 1);
+            choir.minutes(2);
+            CHECK.same("the dish that is ready", choir.count(5), 1 << d);
+            row(choir, d, NONE, NONE, NONE);
+        }
+    }
+
+    /** 98 by POWER 2 and 99 by POWER 1 sing at once; the other way round, which comes ahead, a minute later. */
+    private static void soonestByALaterRow() {
+        CHECK.says("of all such rows that by which it is READY soonest .. when");
+        KettleChoir choir = CHECK.choir("tin 9 6 5 0;tin 12 6 5 0;stove 1;stove 2;dish 3;");
+        choir.put(1, 0);
+        choir.minutes(30);
+        choir.minutes(20);
+        choir.put(0, 1);
+        choir.minutes(30);
+        choir.minutes(19);
+        CHECK.same("heat of 0", choir.kettle(0, 5), 98);
+        CHECK.same("heat of 1", choir.kettle(1, 5), 99);
+        row(choir, 0, 1, 1, 0);
+        choir.undo();
+        choir.minutes(18);
+        CHECK.same("heat of 0, a minute ahead", choir.kettle(0, 5), 96);
+        CHECK.same("heat of 1, a minute ahead", choir.kettle(1, 5), 98);
+        row(choir, 0, 2, 1, 0);
     }
 
     private static void soonestFirstRow() {
@@ -268,6 +308,21 @@ public final class SearchEdgeTest {
         CHECK.same("scraped", choir.chord(0), 0);
     }
 
+    private static void chordOfEachDish() {
+        CHECK.says("they sing a NOTE and those so many STEPS higher; none");
+        KettleChoir choir = CHECK.choir("dish 3;dish 7 3;dish 11;dish 10 7 3;dish 1;tin 9 4 1 0;tin 12 4 1 0;tin 16 4 1 0;"
+                + "tin 19 4 1 0;");
+        int[] due = {0, 0, NONE, 0, NONE};
+        for (int d = 0; d < 5; d++) {
+            CHECK.same("the chord of dish " + d, choir.chord(d), due[d]);
+        }
+        choir.pour(3, 0);
+        due[3] = 1;
+        for (int d = 0; d < 5; d++) {
+            CHECK.same("the chord of dish " + d + ", one being empty", choir.chord(d), due[d]);
+        }
+    }
+
     private static void chordMissing() {
         CHECK.says("no such DISH (as everywhere)");
         for (int wrong : new int[] {-1, 2, 5, FAR[0], FAR[1]}) {
@@ -291,6 +346,15 @@ public final class SearchEdgeTest {
         int[][] in2 = {{18, NONE}, {19, NONE}, {20, 40}, {21, 40}, {22, 39}, {98, 1}};
         for (int[] each : in2) {
             CHECK.same("within 2 from " + each[0], hot(each[0]).burner(0, 2), each[1]);
+        }
+        // Hot enough to sing on no stove at all: the least POWER is 1 still.
+        for (int heat : new int[] {100, 101, 102, 149, 150}) {
+            KettleChoir choir = CHECK.choir("tin 9 5 5 0;stove 40;stove 10;stove 1;");
+            CHECK.heat(choir, 0, heat);
+            CHECK.same("too full, from " + heat, choir.burner(0, 120), NONE);
+            choir.pour(0, 4);
+            CHECK.same("within 1 from " + heat, choir.burner(0, 1), 1);
+            CHECK.same("within 120 from " + heat, choir.burner(0, 120), 1);
         }
     }
 
@@ -363,6 +427,22 @@ public final class SearchEdgeTest {
                     CHECK.same(steps + " of " + apart + " apart, below", choir.together(1, 0, 1, steps), due);
                 }
             }
+        }
+    }
+
+    /** One cup by POWER 30 sings at 100, then twice at 150; copper of SPOUT 1 and CHALK 8 sings 0, then 3. */
+    private static void togetherByNote0() {
+        CHECK.says("both SING so many STEPS apart (0 to 24)");
+        KettleChoir low = CHECK.choir("copper 1 4 1 8;copper 1 4 1 8;tin 1 4 1 0;tin 9 4 1 9;tin 9 4 1 9;");
+        for (int steps = 0; steps <= 24; steps++) {
+            CHECK.same("0 and 0, " + steps + " apart", low.together(0, 1, 30, steps), steps == 0 ? 3 : 0);
+            int due = steps == 1 ? 1 : steps == 3 ? 2 : 0;
+            CHECK.same("0 and 1, then 3 and 6, " + steps + " apart", low.together(0, 2, 30, steps), due);
+            CHECK.same("1 and 0, then 6 and 3, " + steps + " apart", low.together(2, 0, 30, steps), due);
+            CHECK.same("one doesn't sing, " + steps + " apart", low.together(2, 3, 30, steps), 0);
+            CHECK.same("the other one doesn't, " + steps + " apart", low.together(3, 2, 30, steps), 0);
+            CHECK.same("it doesn't, the other one sings 0, " + steps + " apart", low.together(3, 0, 30, steps), 0);
+            CHECK.same("nobody sings, " + steps + " apart", low.together(3, 4, 30, steps), 0);
         }
     }
 
