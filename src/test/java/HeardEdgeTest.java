@@ -344,6 +344,21 @@ public final class HeardEdgeTest {
         KettleChoir one = singing(9, 10, 7);
         rests(one, 0, 1, 1, 1);
         rests(one, 1, 0, 1, 10);
+        // More kettles than stoves: the third one sings on off its stove, at 146 in its sixth minute.
+        for (int spout = 1; spout <= 12; spout++) {
+            KettleChoir choir = CHECK.choir("tin 9 4 1 0;tin 20 4 1 0;enamel " + spout + " 4 3 0;stove 30;stove 30;");
+            choir.put(2, 0);
+            choir.minutes(4);
+            choir.lift(2);
+            choir.put(0, 0);
+            choir.put(1, 1);
+            choir.minutes(2);
+            CHECK.same("who sings", choir.count(4), 7);
+            CHECK.same("the note of the third one", choir.kettle(2, 8), spout + 4);
+            int far = Math.abs(spout + 4 - 9);
+            rests(choir, 0, 1, 1, far == 1 || far == 2 ? 1 : 11);
+            rests(choir, 1, 0, 1, far == 1 || far == 2 ? 10 : 11);
+        }
         // A third one that doesn't sing is near nobody, not even 0 and 1, as it would be if its NOTE were -1 or 0.
         for (int note = 0; note <= 3; note++) {
             String low = note == 0 ? "copper 1 4 1 0;" : "tin " + note + " 4 1 0;";

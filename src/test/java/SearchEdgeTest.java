@@ -79,6 +79,12 @@ public final class SearchEdgeTest {
         choir.lift(0);
         choir.lift(1);
         row(choir, 0, 1, NONE, NONE, NONE, NONE);
+        // One stove is too few for both, whichever stands on it now.
+        for (int k = 0; k < 4; k++) {
+            KettleChoir one = CHECK.choir("tin 9 4 1 0;tin 12 4 1 0;tin 9 4 1 0;tin 12 4 1 0;stove 30;dish 3;");
+            one.put(k, 0);
+            row(one, 0, NONE, NONE);
+        }
         choir.undo();
         choir.undo();
         choir.pour(1, 5);
@@ -294,6 +300,13 @@ public final class SearchEdgeTest {
         cups("copper 1 4 1 8;tin 1 4 1 8;dish 1;", NONE);
         cups("copper 1 4 1 8;tin 17 40 1 0;dish 24;", 0);
         cups("tin 9 4 1 0;tin 9 4 1 0;dish 1;", NONE);
+        // 31 is the highest at HEAT 100, and 30 so the highest to which one is a STEP higher.
+        cups("tin 24 40 1 0;tin 24 35 1 0;dish 1;", 0);
+        cups("tin 24 40 5 0;tin 24 35 1 0;dish 1;", 0);
+        cups("tin 24 40 6 0;tin 24 35 1 0;dish 1;", 1);
+        cups("tin 24 40 1 0;tin 24 10 1 0;dish 6;", 0);
+        cups("tin 24 40 1 0;tin 24 4 1 0;dish 7;", 0);
+        cups("tin 24 40 1 0;tin 24 40 1 0;dish 1;", 5);
     }
 
     private static void chordByChalk() {

@@ -34,6 +34,7 @@ public final class TextEdgeTest {
         bytesInAnExpr();
         bytesAheadOfALine();
         longestRow();
+        eachLetter();
         endsTooSoon();
         firstAlongTheText();
         leastOfOneToken();
@@ -457,6 +458,26 @@ public final class TextEdgeTest {
             fault("lifts " + value.substring(0, value.length() - 2) + ";", 3, 6);
             fault("lifts " + value.substring(1) + ";", 3, 6);
             fault("lifts " + value.substring(0, 2) + " " + value.substring(2) + ";", 3, 6);
+        }
+    }
+
+    /** A word with one letter otherwise is another word. */
+    private static void eachLetter() {
+        CHECK.says("LINE: (('tin' | 'copper' | 'iron' | 'enamel') .. | 'stove' .. | 'dish' .. | 'lifts' EXPR) .. VALUES");
+        String[] words = {"tin", "copper", "iron", "enamel", "stove", "dish", "lifts", "not", "and", "or", "note", "sung",
+            "third", "heat", "fill", "chalk", "singers"};
+        for (int w = 0; w < words.length; w++) {
+            String ahead = w < 7 ? "" : w == 8 || w == 9 ? "lifts 1 " : "lifts ";
+            String behind = w < 4 ? " 5 20 5 0;" : w < 10 ? " 5;" : ";";
+            fits(ahead + words[w] + behind);
+            for (int at = 0; at < words[w].length(); at++) {
+                for (char c = 'a'; c <= 'z'; c++) {
+                    if (c != words[w].charAt(at)) {
+                        String other = words[w].substring(0, at) + c + words[w].substring(at + 1);
+                        fault(ahead + other + behind, w == 7 || w >= 10 ? 3 : 1, ahead.length());
+                    }
+                }
+            }
         }
     }
 
