@@ -13,7 +13,7 @@ public final class ModelTest {
     private boolean dear;
     private final List<String> told = new ArrayList<>();
 
-    private ModelTest(long seed) {
+    ModelTest(long seed) {
         random = new Random(seed);
     }
 
@@ -86,7 +86,7 @@ public final class ModelTest {
         return one(12) ? "\n " : " ";
     }
 
-    private String text() {
+    String text() {
         StringBuilder text = new StringBuilder();
         int pots = one(4) ? upTo(0, 9) : upTo(1, 4);
         int stoves = one(6) ? upTo(0, 5) : upTo(1, 3);
@@ -165,7 +165,7 @@ public final class ModelTest {
         return one(3) ? "" + (one(8) ? upTo(0, 9999) : upTo(0, 160)) : VALUES[random.nextInt(7)];
     }
 
-    private String spoilt(String text) {
+    String spoilt(String text) {
         String[] bits = {";", "(", ")", "+", "-", "*", "/", "<", "=", " ", "\n", "not ", " or ", " and ", "0", "9", "12345",
             "tin", "lifts ", "dish ", "stove ", "\t", "A", "{", "`", ":", "\u00e9", "note", "x", "((((((", "3 3 ", ""};
         int from = random.nextInt(text.length() + 1);
