@@ -15,7 +15,7 @@ public final class LongTest {
     };
 
     public static void main(String[] args) {
-        CHECK.says("An object is used for at most 512 calls after it has been made");
+        CHECK.says("An object is used for at most 512 calls after it has been made; what later calls answer is free.");
         upTo9999();
         upTo9999BySmallerSteps();
         moreThan40Acts();
@@ -25,7 +25,8 @@ public final class LongTest {
         imagesBetween();
         heardAndForgotten();
         refusedAllEvening();
-        for (int seed = 0; seed < 60; seed++) {
+        int runs = args.length > 0 ? Integer.parseInt(args[0]) : 60;
+        for (int seed = 0; seed < runs; seed++) {
             drawn(seed);
         }
         CHECK.end();
