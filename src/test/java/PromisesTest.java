@@ -5,7 +5,7 @@
 public final class PromisesTest {
     private static final Check CHECK = new Check("PromisesTest");
     private static final int NONE = Check.NONE;
-    // One sings 8, 9, 10 .. from the 10th minute on, the other one 3 higher: MINUTE 9 is the first that makes dish 0 ready.
+    // Both sing from the 10th minute, MINUTE 9, to the 22nd: 8 and 10, and 2 apart from then on; the third is too full.
     private static final String DUO = "tin 5 20 5 0;tin 8 20 5 4;tin 7 20 20 0;stove 10;stove 10;stove 40;dish 2;dish 9 24;";
 
     public static void main(String[] args) {
@@ -116,8 +116,7 @@ public final class PromisesTest {
         CHECK.same("without a kitchen", choir.fault(), NONE);
         Check.read(choir, "tin 5 20 5 0;stove 41;");
         CHECK.same("the stove's power", choir.fault(), 19);
-        Check.tape(choir, "");
-        CHECK.illegal("no kitchen()", () -> choir.kitchen(1));
+        CHECK.illegal("no tape for kitchen(1)", () -> choir.kitchen(1));
         CHECK.same("still the latest", choir.fault(), 19);
         Check.read(choir, "stove");
         CHECK.same("the end of the text", choir.fault(), 5);

@@ -607,7 +607,7 @@ public final class TermsTest {
         CHECK.same("nobody is lifted off", choir.kettle(0, 6) + choir.kettle(1, 6) + choir.kettle(2, 6), 3);
     }
 
-    /** Seed 4: the first draw of one kettle, then 1 of 4; seed 1: 2 of 4, which does nothing. */
+    /** By each of the four deeds of the second draw, one that is on the second stove, or on none, but as hot. */
     private static void evening() {
         CHECK.says("EVENINGS by a seed: n MINUTES (0 to 90) from now on: ahead of each a DRAW of KETTLES, then a DRAW of 4: 0 it is"
                 + " lifted off (if it is on one), 1 it comes on the first STOVE on which there is none (if it is on none, and"
@@ -640,7 +640,7 @@ public final class TermsTest {
         return (int) ((state >> 16 & 32767) % 4);
     }
 
-    /** Seeds with their first two states: draws of KETTLES and of 4 by bits 16 to 30 of them. */
+    /** By the first draw one of three is chosen, by the second one it is lifted off or not: who is left, sings. */
     private static void eveningSeed() {
         CHECK.says("A seed becomes itself times 1103515245 and 12345 (an int that wraps); a DRAW of n is its bits 16 to 30 MOD n"
                 + " then. (Without KETTLES nothing is drawn.)");
